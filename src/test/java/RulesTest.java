@@ -1,0 +1,57 @@
+import java.lang.reflect.Field;
+import java.lang.reflect.Method;
+import java.lang.reflect.Modifier;
+import java.nio.file.Files;
+import java.nio.file.Path;
+import java.util.regex.Pattern;
+
+/** The rules of LANGUAGE.md that can be read off the source and the compiled classes. */
+public final class RulesTest {
+    private static final String[] FORBIDDEN = {
+        "\\bimport\\b", "\\bpackage\\b", "\\bthrows?\\b", "\\btry\\b", "\\bcatch\\b",
+        "\\bsynchronized\\b", "\\bassert\\b", "->", "::", "\\bdouble\\b", "\\bfloat\\b",
+        "\\bpublic static (?!final)", "\\bprotected\\b"};
+    private static final int MOST_PARAMETERS = 7;
+    private static final int MOST_LINES = 60;
+
+    public static void main(String[] args) throws Exception {
+        Checks checks = new Checks();
+        String source = Files.readString(Path.of(args[0]));
+        String code = source.replaceAll("(?s)/\\*.*?\\*/", "").replaceAll("//[^\n]*", "");
+        for (String pattern : FORBIDDEN) {
+            checks.no("the source has " + pattern, Pattern.compile(pattern).matcher(code).find());
+        }
+        checks.yes("characters 0 to 255 alone", source.chars().allMatch(c -> c < 256));
+        checks.yes("short methods", longestMethod(code) <= MOST_LINES);
+        classRules(checks, FencePilot.class);
+        for (Class<?> inside : FencePilot.class.getDeclaredClasses()) {
+            checks.yes(inside + " is static", Modifier.isStatic(inside.getModifiers()));
+            classRules(checks, inside);
+        }
+        checks.finish();
+    }
+
+    private static int longestMethod(String code) {
+        int longest = 0;
+        int began = 0;
+        String[] lines = code.split("\n");
+        for (int i = 0; i < lines.length; i++) {
+            if (lines[i].matches("( {4}| {8})\\S.*\\(.*\\{")) {
+                began = i;
+            } else if (lines[i].matches("( {4}| {8})\\}")) {
+                longest = Math.max(longest, i - began);
+            }
+        }
+        return longest;
+    }
+
+    private static void classRules(Checks checks, Class<?> type) {
+        for (Field field : type.getDeclaredFields()) {
+            int modifiers = field.getModifiers();
+            checks.yes(field + " is final if static", !Modifier.isStatic(modifiers) || Modifier.isFinal(modifiers));
+        }
+        for (Method method : type.getDeclaredMethods()) {
+            checks.yes(method + " has few parameters", method.getParameterCount() <= MOST_PARAMETERS);
+        }
+    }
+}
