@@ -33,7 +33,9 @@ public final class CommandTest {
         FencePilot pilot = Checks.fenced();
         checks.same("never voted", pilot.arm(), FencePilot.NOPLACE);
         Checks.tickAt(pilot, 4801, 0, 0);
-        checks.same("not safe", pilot.arm(), FencePilot.NOPLACE);
+        checks.same("x not safe", pilot.arm(), FencePilot.NOPLACE);
+        Checks.tickAt(pilot, 0, -4801, 0);
+        checks.same("y not safe", pilot.arm(), FencePilot.NOPLACE);
         Checks.tickAt(pilot, 4800, -4800, 0);
         pilot.tick(90);
         checks.same("lost", pilot.arm(), FencePilot.NOPLACE);
@@ -41,6 +43,9 @@ public final class CommandTest {
         checks.same("change(0)", pilot.change(0), -1);
         Checks.tickAt(pilot, 4800, -4800, 0);
         checks.same("just safe", pilot.arm(), 0);
+        FencePilot high = Checks.fenced();
+        Checks.tickAt(high, 0, 0, 20000);
+        checks.same("the height does not count", high.arm(), 0);
     }
 
     private static void armOnceOnly(Checks checks) {
