@@ -1,4 +1,7 @@
-/** Counts the answers that are not the ones due, and makes craft that tests begin with. */
+/**
+ * Counts the answers that are not the ones due, under the sentence of the document that they are
+ * about, and makes craft that tests begin with.
+ */
 final class Checks {
     static final int DISARMED = 0;
     static final int TAKEOFF = 1;
@@ -7,14 +10,36 @@ final class Checks {
     static final int RETURN = 4;
     static final int LAND = 5;
 
+    /** Just beyond every range of the document, and where ints wrap around. */
+    static final int[] FAR = {Integer.MIN_VALUE, Integer.MIN_VALUE + 1, -1000000, 1000000,
+        Integer.MAX_VALUE - 1, Integer.MAX_VALUE};
+
+    private String sentence = "";
+    private int sentences = 0;
+    private int askedBefore = 0;
     private int asked = 0;
     private int wrong = 0;
+
+    /** What follows is about this sentence; each one needs two answers, at a boundary and beyond. */
+    void about(String quoted) {
+        closeSentence();
+        sentence = quoted;
+        sentences++;
+        askedBefore = asked;
+    }
+
+    private void closeSentence() {
+        if (!sentence.isEmpty() && asked - askedBefore < 2) {
+            wrong++;
+            System.out.println("fewer than two answers are looked at for \"" + sentence + "\"");
+        }
+    }
 
     void same(String call, long got, long want) {
         asked++;
         if (got != want) {
             wrong++;
-            System.out.println(call + " answered " + got + ", due is " + want);
+            System.out.println("\"" + sentence + "\": " + call + " answered " + got + ", due is " + want);
         }
     }
 
@@ -39,7 +64,9 @@ final class Checks {
     }
 
     void finish() {
-        System.out.println(asked + " answers looked at, " + wrong + " not as due");
+        closeSentence();
+        System.out.println(asked + " answers looked at for " + sentences + " sentences, "
+            + wrong + " not as due");
         if (wrong != 0) {
             System.exit(1);
         }
@@ -56,12 +83,16 @@ final class Checks {
         corners(pilot, -reach, -reach, reach, -reach, reach, reach, -reach, reach);
     }
 
-    /** On the ground at home, in a square fence of 5000 around it, with a ceiling of 3000. */
-    static FencePilot fenced() {
+    /** On the ground, never voted, in a square fence of that reach around home. */
+    static FencePilot fenced(int reach, int ceiling) {
         FencePilot pilot = new FencePilot();
-        square(pilot, 5000);
-        pilot.fence(3000);
+        square(pilot, reach);
+        pilot.fence(ceiling);
         return pilot;
+    }
+
+    static FencePilot fenced() {
+        return fenced(5000, 3000);
     }
 
     static int tickAt(FencePilot pilot, int x, int y, int z, int battery) {
@@ -82,7 +113,10 @@ final class Checks {
 
     /** Armed at home after one tick, so in TAKEOFF. */
     static FencePilot armed() {
-        FencePilot pilot = fenced();
+        return armedIn(fenced());
+    }
+
+    static FencePilot armedIn(FencePilot pilot) {
         tickAt(pilot, 0, 0, 0);
         pilot.arm();
         return pilot;
@@ -92,6 +126,19 @@ final class Checks {
     static FencePilot holding() {
         FencePilot pilot = armed();
         tickAt(pilot, 0, 0, 1000);
+        return pilot;
+    }
+
+    /** In any mode but DISARMED, at home and 1000 high after two ticks, with one item far off. */
+    static FencePilot flyingIn(int mode) {
+        FencePilot pilot = armed();
+        load(pilot, 4000, 0, 1000);
+        if (mode == TAKEOFF) {
+            tickAt(pilot, 0, 0, 999);
+        } else {
+            tickAt(pilot, 0, 0, 1000);
+            pilot.command(mode);
+        }
         return pilot;
     }
 

@@ -13,6 +13,8 @@ public final class RulesTest {
         "\\bpublic static (?!final)", "\\bprotected\\b"};
     private static final int MOST_PARAMETERS = 7;
     private static final int MOST_LINES = 60;
+    private static final int MOST_FIELDS = 20;
+    private static final int MOST_CLASSES = 12;
 
     public static void main(String[] args) throws Exception {
         Checks checks = new Checks();
@@ -23,6 +25,7 @@ public final class RulesTest {
         }
         checks.yes("characters 0 to 255 alone", source.chars().allMatch(c -> c < 256));
         checks.yes("short methods", longestMethod(code) <= MOST_LINES);
+        checks.yes("few classes", FencePilot.class.getDeclaredClasses().length < MOST_CLASSES);
         classRules(checks, FencePilot.class);
         for (Class<?> inside : FencePilot.class.getDeclaredClasses()) {
             checks.yes(inside + " is static", Modifier.isStatic(inside.getModifiers()));
@@ -46,10 +49,13 @@ public final class RulesTest {
     }
 
     private static void classRules(Checks checks, Class<?> type) {
+        int fields = 0;
         for (Field field : type.getDeclaredFields()) {
             int modifiers = field.getModifiers();
+            fields += Modifier.isStatic(modifiers) ? 0 : 1;
             checks.yes(field + " is final if static", !Modifier.isStatic(modifiers) || Modifier.isFinal(modifiers));
         }
+        checks.yes(type + " has few fields", fields <= MOST_FIELDS);
         for (Method method : type.getDeclaredMethods()) {
             checks.yes(method + " has few parameters", method.getParameterCount() <= MOST_PARAMETERS);
         }
