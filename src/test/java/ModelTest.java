@@ -3,7 +3,8 @@ import java.util.Random;
 /** All promises together: long runs of calls, the same ones every time, against PlainPilot's answers. */
 public final class ModelTest {
     private static final int RUNS = 4000;
-    private static final int CALLS = 512;
+    /** Steps of a few calls each: more than the 512 that are promised, so that a run meets more. */
+    private static final int STEPS = 512;
     private static final int[] ODD = {Integer.MIN_VALUE, -20001, -20000, -10001, -10000, -2001, -2000, -1,
         0, 1, 499, 500, 1000, 1499, 1500, 10000, 10001, 20000, 20001, Integer.MAX_VALUE};
 
@@ -62,12 +63,12 @@ public final class ModelTest {
     }
 
     private boolean fly() {
-        int calls = 0;
+        int steps = 0;
         if (random.nextInt(8) != 0) {
             shape();
-            calls += 10;
+            steps += 10;
         }
-        for (; calls < CALLS; calls++) {
+        for (; steps < STEPS; steps++) {
             if (!call() || !look()) {
                 return false;
             }
@@ -90,7 +91,7 @@ public final class ModelTest {
     }
 
     private boolean call() {
-        int pick = random.nextInt(40);
+        int pick = random.nextInt(42);
         if (pick < 24) {
             return flownTick();
         } else if (pick < 28) {
@@ -111,7 +112,8 @@ public final class ModelTest {
             int y = near(craft[1], 300);
             return same("safe(" + x + ", " + y + ")", bit(real.safe(x, y)), bit(plain.safe(x, y)));
         }
-        return wrongCall();
+        // A sample that waits for its tick while other calls come in between.
+        return pick < 40 ? give(pick % 3, near(craft[0], 9), near(craft[1], 9), craft[2]) : wrongCall();
     }
 
     private boolean flownTick() {

@@ -343,6 +343,7 @@ public final class TickTest {
         checks.same("below the ground", Checks.tickAt(Checks.flyingIn(Checks.LAND), 0, 0, -2000), Checks.DISARMED);
         checks.same("outside the fence", Checks.tickAt(Checks.flyingIn(Checks.LAND), 9000, 0, 20), Checks.DISARMED);
         checks.same("HOLD does not land", Checks.tickAt(Checks.flyingIn(Checks.HOLD), 0, 0, 20), Checks.HOLD);
+        checks.same("RETURN does not land", Checks.tickAt(Checks.flyingIn(Checks.RETURN), 500, 0, 20), Checks.RETURN);
         checks.same("TAKEOFF does not land", Checks.tickAt(Checks.armed(), 0, 0, 20), Checks.TAKEOFF);
     }
 
