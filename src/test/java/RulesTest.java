@@ -3,6 +3,7 @@ import java.lang.reflect.Method;
 import java.lang.reflect.Modifier;
 import java.nio.file.Files;
 import java.nio.file.Path;
+import java.util.regex.Matcher;
 import java.util.regex.Pattern;
 
 /** The rules of LANGUAGE.md that can be read off the source and the compiled classes. */
@@ -11,6 +12,7 @@ public final class RulesTest {
         "\\bimport\\b", "\\bpackage\\b", "\\bthrows?\\b", "\\btry\\b", "\\bcatch\\b",
         "\\bsynchronized\\b", "\\bassert\\b", "->", "::", "\\bdouble\\b", "\\bfloat\\b",
         "\\bpublic static (?!final)", "\\bprotected\\b"};
+    private static final String LIBRARY = "Math\\.(max|min|floorDiv)|System\\.arraycopy";
     private static final int MOST_PARAMETERS = 7;
     private static final int MOST_LINES = 60;
     private static final int MOST_FIELDS = 20;
@@ -23,6 +25,8 @@ public final class RulesTest {
         for (String pattern : FORBIDDEN) {
             checks.no("the source has " + pattern, Pattern.compile(pattern).matcher(code).find());
         }
+        libraryIsListed(checks, code);
+        objectsAreMadeOnce(checks, code);
         checks.yes("characters 0 to 255 alone", source.chars().allMatch(c -> c < 256));
         checks.yes("short methods", longestMethod(code) <= MOST_LINES);
         checks.yes("few classes", FencePilot.class.getDeclaredClasses().length < MOST_CLASSES);
@@ -32,6 +36,23 @@ public final class RulesTest {
             classRules(checks, inside);
         }
         checks.finish();
+    }
+
+    private static void libraryIsListed(Checks checks, String code) {
+        Matcher use = Pattern.compile("\\b[A-Z]\\w*\\.\\w+").matcher(code);
+        while (use.find()) {
+            checks.yes(use.group() + " is listed", use.group().matches(LIBRARY));
+        }
+    }
+
+    /** What fills a final field is made in a constructor, so no later call takes of the run's room. */
+    private static void objectsAreMadeOnce(Checks checks, String code) {
+        Matcher made = Pattern.compile("([^\n]*)\\bnew\\b[^\n]*").matcher(code);
+        while (made.find()) {
+            String field = made.group(1).trim().replaceAll(" =$", "");
+            boolean kept = Pattern.compile("private final \\S+ " + Pattern.quote(field) + ";").matcher(code).find();
+            checks.yes("made for a final field: " + made.group().trim(), kept);
+        }
     }
 
     private static int longestMethod(String code) {
